@@ -536,9 +536,10 @@ public final class GardenRules {
         }
 
         private void closeGapAt(int place) {
-            int behind = size - 1 - place;
-            System.arraycopy(numbers, place + 1, numbers, place, behind);
-            System.arraycopy(times, place + 1, times, place, behind);
+            for (int i = place; i + 1 < size && i + 1 < MOST_WAITING; i++) {
+                numbers[i] = numbers[i + 1];
+                times[i] = times[i + 1];
+            }
             size--;
         }
     }

@@ -9,8 +9,12 @@ public final class LimitsTest {
         deepIsNotCaught(d);
         whatDeepDidStaysDone(d);
         rulesAndActsShareOneBound(d);
-        longestChains(d);
+        longestChainsOfRules(d);
+        longestChainsOfActs(d);
+        longestChainOfBoth(d);
+        longestChainOfLasts(d);
         fullWhenTwentyThousandWere(d);
+        fullAtTwentyThousandAlready(d);
         waitingStaysWhenFull(d);
         d.end();
     }
@@ -122,8 +126,42 @@ public final class LimitsTest {
         d.due("count(5)", g.count(5), 300);
     }
 
-    /** 40 ACTS and 40 RULES, each of the one before it. */
-    private static void longestChains(Due d) {
+    /** 40 RULES, each but the first of the one before it; RULE 0 says no, or yes, or FAILS. */
+    private static void longestChainsOfRules(Due d) {
+        int no = 0, yes = 1, zero = -11;
+        int[][] kindFirstByBSaysAsked = {{5, no, 0, yes, 40}, {6, yes, 0, yes, 79}, {6, yes, 1, yes, 79},
+            {7, no, 0, no, 79}, {7, no, 1, no, 79}, {8, yes, 0, yes, 40}, {9, yes, 0, yes, 40}, {9, zero, 1, zero, 79}};
+        for (int[] row : kindFirstByBSaysAsked) {
+            GardenRules g = new GardenRules();
+            g.rule(row[1] == zero ? 3 : 0, 0, row[1] == yes ? -1 : 0, 0);
+            for (int r = 0; r < 39; r++) {
+                int other = row[0] == 8 ? 1 : 0;
+                g.rule(row[0], row[2] == 0 ? r : other, row[2] == 0 ? other : r, 0);
+            }
+            d.due("ask(39) of KIND " + row[0], g.ask(39), row[3]);
+            d.due("count(5) of KIND " + row[0], g.count(5), row[4]);
+        }
+    }
+
+    /** 40 ACTS, each but the first of the one before it; ACT 0 pours nothing, or is DRY. RULE 0 says no, 1 says yes. */
+    private static void longestChainsOfActs(Due d) {
+        int dry = -13;
+        int[][] kindFirstOtherByBSaysBegun = {{2, 1, 1, 1, 1, 79}, {3, 1, 0, 0, 1, 79}, {3, 1, 0, 1, 1, 79},
+            {4, 1, 1, 0, 1, 40}, {6, 1, 0, 0, 1, 40}, {6, dry, 0, 1, dry, 79}, {7, 1, 0, 0, 1, 40}};
+        for (int[] row : kindFirstOtherByBSaysBegun) {
+            GardenRules g = new GardenRules();
+            g.rule(0, 0, 0, 0);
+            g.rule(0, 0, -1, 0);
+            g.act(0, 0, row[1] == dry ? 101 : 0, 0);
+            for (int x = 0; x < 39; x++) {
+                g.act(row[0], row[3] == 0 ? x : row[2], row[3] == 0 ? row[2] : x, -1);
+            }
+            d.due("run(39) of KIND " + row[0], g.run(39), row[4]);
+            d.due("count(5) of KIND " + row[0], g.count(5), row[5]);
+        }
+    }
+
+    private static void longestChainOfBoth(Due d) {
         GardenRules g = new GardenRules();
         g.rule(0, 0, -1, 0);
         for (int r = 0; r < 39; r++) {
@@ -135,19 +173,22 @@ public final class LimitsTest {
         }
         d.due("run(39)", g.run(39), 1);
         d.due("count(5)", g.count(5), 80);
-        GardenRules h = new GardenRules();
-        h.act(7, 0, 0, 0);
-        for (int x = 0; x < 39; x++) {
-            h.act(7, 0, 0, 0);
+    }
+
+    private static void longestChainOfLasts(Due d) {
+        GardenRules g = new GardenRules();
+        for (int x = 0; x < 40; x++) {
+            g.act(7, 0, 0, 0);
         }
-        d.due("run(39) of LASTS", h.run(39), -14);
-        d.due("count(5) of LASTS", h.count(5), 41);
+        d.due("run(39) of LASTS", g.run(39), -14);
+        d.due("count(5) of LASTS", g.count(5), 41);
     }
 
     private static void fullWhenTwentyThousandWere(Due d) {
         GardenRules g = new GardenRules();
         deepRule(g);
         g.act(0, 0, 1, 0);
+        g.act(0, 0, 2, 0);
         for (int i = 0; i < 66; i++) {
             g.ask(9);
         }
@@ -159,19 +200,25 @@ public final class LimitsTest {
         d.due("ask(9), beyond", g.ask(9), DEEP);
         d.due("count(6)", g.count(6), 20299);
         refusesAll(d, g, 300, 20299);
+    }
 
-        GardenRules h = new GardenRules();
-        deepRule(h);
-        h.act(0, 0, 1, 0);
+    private static void fullAtTwentyThousandAlready(Due d) {
+        GardenRules g = new GardenRules();
+        deepRule(g);
+        g.act(0, 0, 1, 0);
+        g.act(5, 0, 1, 0);
         for (int i = 0; i < 66; i++) {
-            h.ask(9);
+            g.ask(9);
         }
-        for (int i = 0; i < 199; i++) {
-            h.ask(0);
+        g.run(1);
+        for (int i = 0; i < 198; i++) {
+            g.ask(0);
         }
-        d.due("run(0), the 20000th", h.run(0), 1);
-        refusesAll(d, h, 1, 20000);
-        d.due("amount() stays", h.amount(), 1);
+        d.due("run(0), the 20000th", g.run(0), 1);
+        refusesAll(d, g, 1, 20000);
+        d.due("amount() stays", g.amount(), 1);
+        d.due("tick(1)", g.tick(1), 0);
+        d.due("count(2)", g.count(2), 1);
     }
 
     private static void refusesAll(Due d, GardenRules g, int latest, int ever) {
@@ -179,12 +226,12 @@ public final class LimitsTest {
         d.due("ask(0)", g.ask(0), FULL);
         d.due("run(0)", g.run(0), FULL);
         d.due("ask(10)", g.ask(10), UNKNOWN);
-        d.due("run(1)", g.run(1), UNKNOWN);
+        d.due("run(2)", g.run(2), UNKNOWN);
         d.due("tank(0)", g.tank(0), before);
         d.due("count(5)", g.count(5), latest);
         d.due("count(6)", g.count(6), ever);
         d.due("rules can still be told", g.rule(0, 0, 0, 0), 10);
-        d.due("acts can still be told", g.act(0, 0, 0, 0), 1);
+        d.due("acts can still be told", g.act(0, 0, 0, 0), 2);
     }
 
     private static void waitingStaysWhenFull(Due d) {
