@@ -15,7 +15,8 @@ public final class FaceTest {
     public static void main(String[] args) {
         Due d = new Due();
         Class<?> face = GardenRules.class;
-        d.due("public and final", face.getModifiers() & (Modifier.PUBLIC | Modifier.FINAL), Modifier.PUBLIC | Modifier.FINAL);
+        isSo(d, "public", Modifier.isPublic(face.getModifiers()));
+        isSo(d, "final", Modifier.isFinal(face.getModifiers()));
         d.due("constructors", face.getDeclaredConstructors().length, 1);
         d.due("public constructors without arguments", face.getConstructors()[0].getParameterCount(), 0);
         methodsAreOfTheFace(d, face);
@@ -45,7 +46,8 @@ public final class FaceTest {
             String arguments = Arrays.toString(m.getParameterTypes()).replace("[", "(").replace("]", ")");
             seen.add(m.getName() + arguments);
             names.add(m.getName());
-            isSo(d, m.getName() + " is public", Modifier.isPublic(m.getModifiers()) && !Modifier.isStatic(m.getModifiers()));
+            isSo(d, m.getName() + " is public", Modifier.isPublic(m.getModifiers()));
+            isSo(d, m.getName() + " is not static", !Modifier.isStatic(m.getModifiers()));
             isSo(d, m.getName() + " answers an int", m.getReturnType() == int.class);
         }
         isSo(d, "methods " + seen, seen.equals(METHODS));

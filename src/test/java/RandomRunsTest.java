@@ -1,14 +1,15 @@
 import java.util.Random;
 
-/** All promises: random runs of 512 calls, with seeds that are always the same, compared with GardenModel. */
+/** All promises: random runs of at most 512 calls, with seeds that are always the same, compared with GardenModel. */
 public final class RandomRunsTest {
-    private static final int RUNS = 3000, CALLS = 512;
+    private static final int RUNS = 5000, CALLS = 512, CALLS_AT_ONCE = 3, CALLS_OF_COMPARE_ALL = 195;
     private static final int[] EDGES = {Integer.MIN_VALUE, Integer.MIN_VALUE + 1, -2, -1, 0, 1, 5, 6, 7, 8, 9, 10, 39,
         40, 41, 50, 51, 99, 100, 101, 999, 1000, 1001, 1000000, 1000001, Integer.MAX_VALUE};
 
     private final Due d = new Due();
     private final Random random;
     private final int run;
+    private int calls;
     private final GardenRules g = new GardenRules();
     private final GardenModel m = new GardenModel();
 
@@ -26,15 +27,16 @@ public final class RandomRunsTest {
     private void compare() {
         // Some runs tell first and do then, so that there is much to do; others mix all calls.
         int tellAtFirst = run % 3 == 0 ? 0 : 20 + random.nextInt(80);
-        for (int i = 0; i < CALLS; i++) {
-            if (i < tellAtFirst || random.nextInt(12) == 0) {
+        int end = run % 2 == 0 ? CALLS - CALLS_AT_ONCE : CALLS - CALLS_OF_COMPARE_ALL;
+        while (calls <= end) {
+            if (calls < tellAtFirst || random.nextInt(12) == 0) {
                 tell();
             } else {
                 call();
             }
-            if (i % 64 == 63) {
-                compareAll();
-            }
+        }
+        if (run % 2 != 0) {
+            compareAll();
         }
         d.end();
     }
@@ -54,6 +56,7 @@ public final class RandomRunsTest {
     }
 
     private void due(String call, int got, int want) {
+        calls++;
         d.due("run " + run + ": " + call, got, want);
     }
 
