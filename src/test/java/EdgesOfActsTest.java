@@ -35,6 +35,7 @@ public final class EdgesOfActsTest extends Told {
         tryGivesBackNothingElse();
         triesWithinTries();
         triesWithinTriesThatFail();
+        tryAsPartOfEachKind();
         lastOfNone();
         lastIsTheOneBefore();
         showIsWhatTheTankHas();
@@ -477,6 +478,24 @@ public final class EdgesOfActsTest extends Told {
         tanks("then", g, 100, 100);
         comesTo("without TRY around", g, thenInner, DRY, 0, 5);
         tanks("then", g, 40, 100);
+    }
+
+    private static void tryAsPartOfEachKind() {
+        GardenRules g = new GardenRules();
+        int yes = yes(g), no = no(g), one = pour(g, 1, 1), nothing = pour(g, 0, 0), dry = dry(g);
+        int fails = then(g, pour(g, 0, 60), dry);
+        int tries = tries(g, fails, one), last = last(g);
+        comesTo("LAST of TRY", g, last, 1, 1, 6);
+        comesTo("WHEN of TRY, b", g, when(g, yes, tries, NONE), 1, 1, 7);
+        comesTo("WHEN of TRY, c", g, when(g, no, NONE, tries), 1, 1, 7);
+        comesTo("THEN of TRY, a", g, then(g, tries, nothing), 1, 1, 7);
+        comesTo("THEN of TRY, b", g, then(g, nothing, tries), 1, 1, 7);
+        comesTo("TIMES of TRY", g, times(g, tries, 9), 1, 9, 46);
+        comesTo("TRY of TRY, a", g, tries(g, tries, nothing), 1, 1, 6);
+        comesTo("TRY of TRY, b", g, tries(g, dry, tries), 1, 1, 7);
+        g.run(later(g, tries, 1));
+        due("tick(1), TRY that WAITED", g.tick(1), 1);
+        tanks("then", g, 100, 100 - 17);
     }
 
     /** "(if there was none: one that is missing begins, and is NONE, the FAILURE)" */
